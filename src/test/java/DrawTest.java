@@ -1,13 +1,29 @@
 /** Promise 2: a KIND of a SIZE is drawn in place of what there was, and all are LEFT. */
 public final class DrawTest {
+    private static final int[][] NOT_SUCH = {{-1, 0}, {8, 0}, {0, -1}, {0, 61}, {8, 61}, {-1, -1}, {8, -1}, {-1, 61},
+        {Integer.MIN_VALUE, 5}, {Integer.MAX_VALUE, 5}, {5, Integer.MIN_VALUE}, {5, Integer.MAX_VALUE}};
+
     public static void main(String[] args) {
+        Due.sentence("Promise 2: a KIND of a SIZE is drawn");
         everyKindIsDrawn();
         otherSeedsAreDrawn();
         plantedIsInEverySet();
+        Due.sentence("Promise 2: how many PARTS");
         everySizeIsDrawn();
-        whatIsNotSuchDoesNothing();
+        Due.sentence("Promise 2: in place of what there was");
         aDrawingTakesThePlaceOfTheLast();
+        nothingOfALargerOneCounts();
+        theSameIsDrawnAgain();
         theVerdictOutlivesADrawing();
+        Due.sentence("Promise 2: all are LEFT");
+        allAreLeft();
+        Due.sentence("Promise 2: - 2: KIND is not such");
+        kindIsNotSuch();
+        Due.sentence("Promise 2: - 2: SIZE is not such");
+        sizeIsNotSuch();
+        Due.sentence("Promise 2: - 2, and nothing happens");
+        whatIsNotSuchDoesNothing();
+        nothingHappensToANewObject();
         Due.end();
     }
 
@@ -74,19 +90,87 @@ public final class DrawTest {
         }
     }
 
+    private static void kindIsNotSuch() {
+        int[] wrong = {-1, -2, 8, 9, 256, Integer.MIN_VALUE, Integer.MAX_VALUE};
+        for (int kind : wrong) {
+            Due.is("draw(" + kind + ", 0)", new BuildDrawer(0L).draw(kind, 0), -2);
+            Due.is("draw(" + kind + ", 60)", new BuildDrawer(0L).draw(kind, 60), -2);
+        }
+    }
+
+    private static void sizeIsNotSuch() {
+        int[] wrong = {-1, -2, -3, 61, 62, 63, 256, Integer.MIN_VALUE, Integer.MAX_VALUE - 1, Integer.MAX_VALUE};
+        for (int size : wrong) {
+            for (int kind = 0; kind < 8; kind++) {
+                Due.is("draw(" + kind + ", " + size + ")", new BuildDrawer(0L).draw(kind, size), -2);
+            }
+        }
+    }
+
     private static void whatIsNotSuchDoesNothing() {
-        int[][] wrong = {{-1, 0}, {8, 0}, {0, -1}, {0, 61}, {8, 61}, {-1, -1}, {Integer.MIN_VALUE, 5},
-            {Integer.MAX_VALUE, 5}, {5, Integer.MIN_VALUE}, {5, Integer.MAX_VALUE}};
+        for (int[] pair : NOT_SUCH) {
+            BuildDrawer drawer = new BuildDrawer(0L);
+            drawer.draw(1, 7);
+            drawer.verdict(64 | 2 | 128 | 4, true);
+            drawer.shorter();
+            String before = Due.stateOf(drawer);
+            Due.is("draw(" + pair[0] + ", " + pair[1] + ")", drawer.draw(pair[0], pair[1]), -2);
+            Due.is("all that can be asked behind it", Due.stateOf(drawer), before);
+            Due.is("the verdict behind it, by shorter()", drawer.shorter(), 4);
+            Due.is("the next drawing", drawer.draw(0, 0), 2);
+            Due.is("A of its last PART", drawer.part(1, 1), 236);
+        }
+    }
+
+    private static void nothingHappensToANewObject() {
+        for (int[] pair : NOT_SUCH) {
+            BuildDrawer drawer = new BuildDrawer(0L);
+            String before = Due.stateOf(new BuildDrawer(0L));
+            Due.is("draw(" + pair[0] + ", " + pair[1] + ")", drawer.draw(pair[0], pair[1]), -2);
+            Due.is("all that can be asked behind it", Due.stateOf(drawer), before);
+            Due.is("shorter() behind it", drawer.shorter(), 0);
+        }
+    }
+
+    private static void allAreLeft() {
+        BuildDrawer drawer = new BuildDrawer(0L);
+        for (int kind = 0; kind < 8; kind++) {
+            drawer.draw(kind, 7);
+            Due.is("what is left of KIND " + kind, Due.leftOf(drawer), "0 1 2 3 4 5 6 7 8 ");
+            Due.is("shorter()", drawer.shorter(), 0);
+        }
+        drawer.draw(7, 60);
+        Due.is("the last one left of SIZE 60", drawer.left(61), 61);
+        drawer.shorter();
+        drawer.draw(7, 60);
+        Due.is("the last one left of SIZE 60, again", drawer.left(61), 61);
+    }
+
+    /** PARTS 2 to 61 of the larger one had needs, marks and sets, which must not be looked at any more. */
+    private static void nothingOfALargerOneCounts() {
+        BuildDrawer drawer = new BuildDrawer(0L);
+        drawer.draw(1, 60);
+        drawer.draw(0, 0);
+        Due.is("part(0, 6)", drawer.part(0, 6), 8);
+        drawer.verdict(8, true);
+        Due.is("minimal() by PART 1's mark", drawer.minimal(), true);
+        drawer.verdict(1, true);
+        Due.is("minimal() by a mark that is gone", drawer.minimal(), true);
+        Due.is("shorter() by a mark that is gone", drawer.shorter(), 2);
+        drawer.verdict(1, false);
+        Due.is("shorter(), as it doesn't stay", drawer.shorter(), 0);
+        drawer.verdict(0, false);
+        Due.is("shorter() to all again", drawer.shorter(), 2);
+        Due.is("what is left", Due.leftOf(drawer), "0 1 ");
+    }
+
+    private static void theSameIsDrawnAgain() {
         BuildDrawer drawer = new BuildDrawer(0L);
         drawer.draw(1, 7);
-        drawer.verdict(128, true);
-        drawer.shorter();
-        for (int[] pair : wrong) {
-            Due.is("draw(" + pair[0] + ", " + pair[1] + ")", drawer.draw(pair[0], pair[1]), -2);
-            Due.is("the text behind it", Due.textOf(drawer), "P4(594,88);");
-            Due.is("PART 8 behind it", drawer.part(8, 1), 155);
-            Due.is("PART 9 behind it", drawer.part(9, 1), -1);
-        }
+        String first = Due.stateOf(drawer);
+        drawer.draw(4, 60);
+        drawer.draw(1, 7);
+        Due.is("all that can be asked of the same drawing", Due.stateOf(drawer), first);
     }
 
     private static void aDrawingTakesThePlaceOfTheLast() {

@@ -2,16 +2,39 @@
 final class Due {
     private static int wrong = 0;
     private static int asked = 0;
+    private static int askedOfSentence = 0;
+    private static int sentences = 0;
+    private static String sentence = "";
 
     private Due() {
     }
 
-    static void is(String call, long got, long want) {
-        asked++;
-        if (got != want) {
+    /** What is asked from here on is asked of this sentence of the document. */
+    static void sentence(String words) {
+        endSentence();
+        sentence = words;
+        sentences++;
+        askedOfSentence = 0;
+    }
+
+    private static void endSentence() {
+        if (sentences > 0 && askedOfSentence == 0) {
             wrong++;
-            System.out.println(call + " answered " + got + ", due is " + want);
+            System.out.println("nothing was asked of: " + sentence);
         }
+    }
+
+    private static void count(String call, boolean right, String got, String want) {
+        asked++;
+        askedOfSentence++;
+        if (!right) {
+            wrong++;
+            System.out.println("[" + sentence + "] " + call + " answered " + got + ", due is " + want);
+        }
+    }
+
+    static void is(String call, long got, long want) {
+        count(call, got == want, Long.toString(got), Long.toString(want));
     }
 
     static void is(String call, boolean got, boolean want) {
@@ -19,11 +42,7 @@ final class Due {
     }
 
     static void is(String call, String got, String want) {
-        asked++;
-        if (!got.equals(want)) {
-            wrong++;
-            System.out.println(call + " answered " + got + ", due is " + want);
-        }
+        count(call, got.equals(want), got, want);
     }
 
     static boolean anyWrong() {
@@ -31,10 +50,18 @@ final class Due {
     }
 
     static void end() {
-        System.out.println(wrong == 0 ? asked + " answers are as due" : wrong + " of " + asked + " answers are not as due");
+        endSentence();
+        String told = " (" + sentences + " sentences)";
+        System.out.println(wrong == 0 ? asked + " answers are as due" + told : wrong + " of " + asked + " answers are not as due" + told);
         if (wrong != 0) {
             System.exit(1);
         }
+    }
+
+    static BuildDrawer drawn(long seed, int kind, int size) {
+        BuildDrawer drawer = new BuildDrawer(seed);
+        drawer.draw(kind, size);
+        return drawer;
     }
 
     /** The whole text, letter by letter up to the first NONE; for short ones, as an object has but 512 calls. */
@@ -78,6 +105,15 @@ final class Due {
             numbers.append(number).append(' ');
         }
         return numbers.append(" and no end").toString();
+    }
+
+    /** All that can be asked of a small drawing, to tell whether a call changed anything. */
+    static String stateOf(BuildDrawer drawer) {
+        StringBuilder state = new StringBuilder(textOf(drawer)).append(leftOf(drawer)).append(drawer.minimal());
+        for (int what = 0; what <= 6; what++) {
+            state.append(" / ").append(partsOf(drawer, 10, what));
+        }
+        return state.toString();
     }
 
     /** One thing of each of the first PARTS, each with a blank behind it. */

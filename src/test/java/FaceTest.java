@@ -7,6 +7,7 @@ import java.util.TreeSet;
 /** The public face: the document's members, and no other that can be seen from outside. */
 public final class FaceTest {
     public static void main(String[] args) {
+        Due.sentence("The public face, and LANGUAGE.md's rules 1 and 5 on what can be seen and what is static");
         Due.is("modifiers of the class", Modifier.toString(BuildDrawer.class.getModifiers()), "public final");
         TreeSet<String> seen = new TreeSet<>();
         for (Constructor<?> constructor : BuildDrawer.class.getDeclaredConstructors()) {

@@ -4,9 +4,15 @@ public final class LetterTest {
             "F0(88,82);T1(320,5)<0;P2(351,227);P3(669,211);P4(594,88);P5(487,69)<2;F6(320,28)<0;P7(719,107)<1;P8(155,208)<1;";
 
     public static void main(String[] args) {
+        Due.sentence("Promise 4: sign i of the TEXT");
         signsInAnyOrder();
         theTextFollowsWhatIsLeft();
         theLongestTexts();
+        Due.sentence("Promise 4: NONE behind it");
+        noneBehindTheText();
+        noneBehindATextThatBecameShorter();
+        Due.sentence("Promise 4: NONE below 0");
+        noneBelowZero();
         Due.end();
     }
 
@@ -16,11 +22,60 @@ public final class LetterTest {
         for (int i = ALL.length() - 1; i >= 0; i--) {
             Due.is("letter(" + i + ")", drawer.letter(i), ALL.charAt(i));
         }
-        Due.is("letter behind the text", drawer.letter(ALL.length()), BuildDrawer.NONE);
-        int[] noSigns = {-1, -2, 991, 992, 993, Integer.MIN_VALUE, Integer.MAX_VALUE};
-        for (int i : noSigns) {
+    }
+
+    private static void dueEnd(BuildDrawer drawer, int length) {
+        if (length > 0) {
+            Due.is("the last sign", drawer.letter(length - 1), ';');
+        }
+        int[] behind = {length, length + 1, 991, 992, 993, Integer.MAX_VALUE - 1, Integer.MAX_VALUE};
+        for (int i : behind) {
+            Due.is("letter(" + i + ") behind " + length + " signs", drawer.letter(i), BuildDrawer.NONE);
+        }
+    }
+
+    private static void noneBehindTheText() {
+        BuildDrawer drawer = new BuildDrawer(0L);
+        dueEnd(drawer, 0);
+        drawer.draw(1, 7);
+        dueEnd(drawer, ALL.length());
+        for (int kind = 0; kind < 8; kind++) {
+            Model model = new Model(0L);
+            model.draw(kind, 60);
+            drawer.draw(kind, 60);
+            dueEnd(drawer, model.text().length());
+        }
+    }
+
+    /** The signs of the longer text must not show behind the shorter one. */
+    private static void noneBehindATextThatBecameShorter() {
+        BuildDrawer drawer = new BuildDrawer(0L);
+        drawer.draw(1, 60);
+        Due.is("letter(800) of a long text is there", drawer.letter(800) != BuildDrawer.NONE, true);
+        drawer.draw(1, 7);
+        dueEnd(drawer, ALL.length());
+        drawer.verdict(128, true);
+        drawer.shorter();
+        dueEnd(drawer, "P4(594,88);".length());
+        drawer.verdict(0, true);
+        drawer.shorter();
+        dueEnd(drawer, 0);
+        drawer.verdict(0, false);
+        drawer.shorter();
+        dueEnd(drawer, ALL.length());
+    }
+
+    private static void noneBelowZero() {
+        BuildDrawer drawer = new BuildDrawer(0L);
+        int[] below = {-1, -2, -112, -992, Integer.MIN_VALUE + 1, Integer.MIN_VALUE};
+        for (int i : below) {
+            Due.is("letter(" + i + ") of nothing", drawer.letter(i), BuildDrawer.NONE);
+        }
+        drawer.draw(1, 7);
+        for (int i : below) {
             Due.is("letter(" + i + ")", drawer.letter(i), BuildDrawer.NONE);
         }
+        Due.is("letter(0)", drawer.letter(0), 'F');
     }
 
     private static void theTextFollowsWhatIsLeft() {

@@ -1,12 +1,31 @@
 /** Promise 1: a seed, and nothing is drawn. */
 public final class NewObjectTest {
     public static void main(String[] args) {
-        nothingIsDrawn(0L);
-        nothingIsDrawn(Long.MIN_VALUE);
-        nothingIsDrawn(Long.MAX_VALUE);
+        Due.sentence("Promise 1: nothing is drawn");
+        long[] seeds = {0L, 1L, -1L, Long.MIN_VALUE, Long.MAX_VALUE};
+        for (long seed : seeds) {
+            eachAsTheFirstCall(seed);
+            nothingIsDrawn(seed);
+        }
+        Due.sentence("Promise 1: a seed");
         theSeedCounts();
         objectsAreApart();
         Due.end();
+    }
+
+    private static void eachAsTheFirstCall(long seed) {
+        int[] edges = {Integer.MIN_VALUE, -1, 0, 1, 61, 62, Integer.MAX_VALUE};
+        for (int i : edges) {
+            for (int what = 0; what <= 6; what++) {
+                Due.is("part(" + i + ", " + what + ") as the first call", new BuildDrawer(seed).part(i, what), -1);
+            }
+            Due.is("letter(" + i + ") as the first call", new BuildDrawer(seed).letter(i), BuildDrawer.NONE);
+            Due.is("left(" + i + ") as the first call", new BuildDrawer(seed).left(i), BuildDrawer.NONE);
+        }
+        Due.is("shorter() as the first call", new BuildDrawer(seed).shorter(), 0);
+        Due.is("minimal() as the first call", new BuildDrawer(seed).minimal(), true);
+        Due.is("same(seed, 7, 60) as the first call", new BuildDrawer(seed).same(seed, 7, 60), true);
+        Due.is("draw(8, 0) as the first call", new BuildDrawer(seed).draw(8, 0), -2);
     }
 
     private static void nothingIsDrawn(long seed) {
@@ -23,6 +42,7 @@ public final class NewObjectTest {
         Due.is("shorter() of nothing, where the verdict does not hold", drawer.shorter(), 0);
         drawer.verdict(255, false);
         Due.is("shorter() of nothing, where the verdict holds", drawer.shorter(), 0);
+        Due.is("minimal() of nothing, where the verdict holds", drawer.minimal(), true);
         Due.is("draw(9, 0) of a new object", drawer.draw(9, 0), -2);
         Due.is("part(0, 0) after no drawing", drawer.part(0, 0), -1);
         Due.is("letter(0) after no drawing", drawer.letter(0), BuildDrawer.NONE);

@@ -1,10 +1,21 @@
 /** Promise 3: what is told of a PART, LEFT or not. */
 public final class PartTest {
     public static void main(String[] args) {
+        Due.sentence("Promise 3: of PART i: 0 its SORT, 1 A, 2 B, 3 the PART that it needs, 4 its MARK, 5 whether it is LEFT");
         everyWhatIsTold();
+        Due.sentence("Promise 3: LEFT or not");
         aPartThatWentIsStillTold();
+        Due.sentence("Promise 3: how many of 0 .. 7 are in the sets of all PACKAGES that are LEFT");
         setsInCommon();
-        wrongNumbers();
+        setsOfThoseLeftAlone();
+        Due.sentence("Promise 3: 8 without any");
+        withoutAnyPackage();
+        Due.sentence("Promise 3: - 1: there is none such");
+        thereIsNoneSuch();
+        Due.sentence("Promise 3: - 2: another what");
+        anotherWhat();
+        Due.sentence("Promise 3: (3 may be - 1, too)");
+        noneNeeded();
         Due.end();
     }
 
@@ -50,14 +61,44 @@ public final class PartTest {
         BuildDrawer clash = new BuildDrawer(-1L);
         clash.draw(1, 7);
         Due.is("part(0, 6) of sets that clash", clash.part(0, 6), 0);
-        BuildDrawer none = new BuildDrawer(0L);
-        none.draw(4, 60);
-        Due.is("part(61, 6) without a PACKAGE", none.part(61, 6), 8);
-        none.draw(1, 0);
-        Due.is("part(1, 6) of KIND 1 without a PACKAGE", none.part(1, 6), 8);
+        BuildDrawer whole = new BuildDrawer(Seeds.withBits(1, 1, 10, 255, 1));
+        whole.draw(1, 1);
+        Due.is("the SORT of PART 2", whole.part(2, 0), 2);
+        Due.is("B of the only PACKAGE", whole.part(2, 2), 255);
+        Due.is("part(2, 6) of a whole set", whole.part(2, 6), 8);
     }
 
-    private static void wrongNumbers() {
+    /** The sets: 227 211 88 69 107 208 of PACKAGES 2 3 4 5 7 8; bit 6 alone is in all. */
+    private static void setsOfThoseLeftAlone() {
+        BuildDrawer drawer = new BuildDrawer(0L);
+        drawer.draw(1, 7);
+        Due.is("part(0, 6) of all", drawer.part(0, 6), 1);
+        drawer.verdict(128, true);
+        drawer.shorter();
+        Due.is("part(4, 6), PACKAGE 4 alone being left", drawer.part(4, 6), 3);
+        Due.is("part(8, 6), by a PACKAGE that is left out", drawer.part(8, 6), 3);
+        drawer.verdict(255, true);
+        drawer.shorter();
+        Due.is("part(0, 6) of all again", drawer.part(0, 6), 1);
+    }
+
+    private static void withoutAnyPackage() {
+        BuildDrawer none = new BuildDrawer(0L);
+        for (int kind = 0; kind < 8; kind++) {
+            none.draw(kind, kind == 1 ? 0 : 60);
+            Due.is("part(0, 6) of KIND " + kind + " without a PACKAGE", none.part(0, 6), 8);
+            Due.is("part(1, 6) of KIND " + kind + " without a PACKAGE", none.part(1, 6), 8);
+        }
+        none.draw(1, 7);
+        none.verdict(4, true);
+        none.shorter();
+        Due.is("part(2, 6), no PACKAGE being left", none.part(2, 6), 8);
+        none.verdict(0, true);
+        none.shorter();
+        Due.is("part(2, 6), nothing being left", none.part(2, 6), 8);
+    }
+
+    private static void thereIsNoneSuch() {
         BuildDrawer drawer = new BuildDrawer(0L);
         drawer.draw(1, 7);
         int[] noParts = {-1, 9, 61, 62, 63, Integer.MIN_VALUE, Integer.MAX_VALUE};
@@ -66,13 +107,35 @@ public final class PartTest {
                 Due.is("part(" + i + ", " + what + ")", drawer.part(i, what), -1);
             }
         }
-        int[] noWhats = {-1, 7, 8, Integer.MIN_VALUE, Integer.MAX_VALUE};
-        for (int what : noWhats) {
-            Due.is("part(0, " + what + ")", drawer.part(0, what), -2);
-            Due.is("part(8, " + what + ")", drawer.part(8, what), -2);
-        }
         drawer.draw(1, 60);
         Due.is("part(61, 5) of the largest size", drawer.part(61, 5), 1);
         Due.is("part(62, 5) of the largest size", drawer.part(62, 5), -1);
+        drawer.draw(1, 0);
+        Due.is("part(1, 5) of the smallest size", drawer.part(1, 5), 1);
+        Due.is("part(2, 5) of the smallest size", drawer.part(2, 5), -1);
+    }
+
+    private static void anotherWhat() {
+        BuildDrawer drawer = new BuildDrawer(0L);
+        drawer.draw(1, 7);
+        int[] noWhats = {-1, -2, 7, 8, 256, Integer.MIN_VALUE, Integer.MAX_VALUE};
+        for (int what : noWhats) {
+            for (int i = 0; i < 9; i++) {
+                Due.is("part(" + i + ", " + what + ")", drawer.part(i, what), -2);
+            }
+        }
+        drawer.shorter();
+        Due.is("part(8, 7), PART 8 being left out", drawer.part(8, 7), -2);
+    }
+
+    private static void noneNeeded() {
+        BuildDrawer drawer = new BuildDrawer(0L);
+        drawer.draw(1, 7);
+        Due.is("part(0, 3)", drawer.part(0, 3), BuildDrawer.NONE);
+        Due.is("part(1, 3)", drawer.part(1, 3), 0);
+        Due.is("part(2, 3)", drawer.part(2, 3), BuildDrawer.NONE);
+        drawer.shorter();
+        Due.is("part(2, 3), PART 2 being left out", drawer.part(2, 3), BuildDrawer.NONE);
+        Due.is("part(5, 3), the PART that it needs being left out", drawer.part(5, 3), 2);
     }
 }

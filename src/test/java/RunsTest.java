@@ -7,6 +7,7 @@ public final class RunsTest {
     private static final int[] EDGES = {Integer.MIN_VALUE, -3, -2, -1, 0, 1, 2, 6, 7, 8, 59, 60, 61, 62, 255, 256, 992, Integer.MAX_VALUE};
 
     public static void main(String[] args) {
+        Due.sentence("all promises together, up to an object's 512th call");
         Random random = new Random(20261115L);
         for (int run = 0; run < RUNS && !Due.anyWrong(); run++) {
             oneRun(random, run % 3 == 0 ? run / 3 - 250 : random.nextLong());

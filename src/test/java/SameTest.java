@@ -1,12 +1,18 @@
 /** Promise 9: whether another seed draws the very PARTS. The long seeds were found by a search for such pairs. */
 public final class SameTest {
     public static void main(String[] args) {
+        Due.sentence("Promise 9: whether another seed draws the very PARTS of this KIND and SIZE");
         theSameSeed();
         otherSeedsThatDrawTheSame();
         seedsThatDrawAllButOneThingTheSame();
         otherSeeds();
-        whatIsNotSuch();
+        Due.sentence("Promise 9: false if KIND is not such");
+        kindIsNotSuch();
+        Due.sentence("Promise 9: false if SIZE is not such");
+        sizeIsNotSuch();
+        Due.sentence("Promise 9: what is drawn stays");
         whatIsDrawnStays();
+        allThatCanBeAskedStays();
         Due.end();
     }
 
@@ -62,11 +68,42 @@ public final class SameTest {
         due(0L, 1L, 3, 0, false);
     }
 
-    private static void whatIsNotSuch() {
-        int[][] wrong = {{-1, 0}, {8, 0}, {0, -1}, {0, 61}, {Integer.MIN_VALUE, 0}, {Integer.MAX_VALUE, 0},
-            {0, Integer.MIN_VALUE}, {0, Integer.MAX_VALUE}};
-        for (int[] pair : wrong) {
-            due(0L, 0L, pair[0], pair[1], false);
+    private static void kindIsNotSuch() {
+        int[] wrong = {-1, -2, 8, 9, 256, Integer.MIN_VALUE, Integer.MAX_VALUE};
+        for (int kind : wrong) {
+            due(0L, 0L, kind, 0, false);
+            due(5L, 5L, kind, 60, false);
+            due(0L, 0L, kind, 61, false);
+        }
+        due(0L, 0L, 0, 0, true);
+        due(0L, 0L, 7, 0, true);
+    }
+
+    private static void sizeIsNotSuch() {
+        int[] wrong = {-1, -2, -3, 61, 62, 63, Integer.MIN_VALUE, Integer.MAX_VALUE - 1, Integer.MAX_VALUE};
+        for (int size : wrong) {
+            for (int kind = 0; kind < 8; kind++) {
+                due(0L, 0L, kind, size, false);
+            }
+        }
+        due(0L, 0L, 1, 0, true);
+        due(0L, 0L, 1, 60, true);
+    }
+
+    private static void allThatCanBeAskedStays() {
+        long[] others = {0L, 1L, -1L, Long.MIN_VALUE, Long.MAX_VALUE};
+        int[][] asked = {{0, 0}, {1, 7}, {1, 60}, {7, 60}, {8, 0}, {0, 61}, {-1, -1}};
+        for (int[] pair : asked) {
+            BuildDrawer drawer = new BuildDrawer(0L);
+            drawer.draw(1, 7);
+            drawer.verdict(64 | 2 | 128 | 4, true);
+            drawer.shorter();
+            String before = Due.stateOf(drawer);
+            for (long other : others) {
+                drawer.same(other, pair[0], pair[1]);
+            }
+            Due.is("all that can be asked after same(.., " + pair[0] + ", " + pair[1] + ")", Due.stateOf(drawer), before);
+            Due.is("the verdict after it, by shorter()", drawer.shorter(), 4);
         }
     }
 
