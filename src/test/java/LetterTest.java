@@ -8,6 +8,7 @@ public final class LetterTest {
         signsInAnyOrder();
         theTextFollowsWhatIsLeft();
         theLongestTexts();
+        theLongestTextFound();
         Due.sentence("Promise 4: NONE behind it");
         noneBehindTheText();
         noneBehindATextThatBecameShorter();
@@ -97,13 +98,22 @@ public final class LetterTest {
     }
 
     private static void theLongestTexts() {
-        int longest = 0;
         for (long seed = 0; seed < 40; seed++) {
-            Model model = new Model(seed);
-            model.draw(1, 60);
-            Due.is("the text of draw(1, 60) by seed " + seed, Due.textOf(seed, 1, 60), model.text());
-            longest = Math.max(longest, model.text().length());
+            dueWhole(seed, 1, 60);
         }
-        Due.is("a text of more than 850 signs was among them", longest > 850, true);
+    }
+
+    private static void dueWhole(long seed, int kind, int size) {
+        Model model = new Model(seed);
+        model.draw(kind, size);
+        Due.is("the text of draw(" + kind + ", " + size + ") by seed " + seed, Due.textOf(seed, kind, size), model.text());
+    }
+
+    /** The longest text that a search of two thousand million seeds found; none can be longer than 966 signs. */
+    private static void theLongestTextFound() {
+        long seed = -6967673382301650870L;
+        dueWhole(seed, 1, 60);
+        Due.is("the signs of the longest text found", Due.textOf(seed, 1, 60).length(), 953);
+        dueEnd(Due.drawn(seed, 1, 60), 953);
     }
 }
